@@ -14,6 +14,7 @@ public final class RoadWater {
     private static final int HIGHEST_RISE = 31;
     private static final int HIGHEST_GROUND = 9;
     private static final int HOURS = 24;
+    private static final int ALL_HOURS = 16777215;
     private static final int THINGS = 8;
     private static final int TALLEST = 31;
     private static final int TERMS = 4;
@@ -247,7 +248,7 @@ public final class RoadWater {
         if (!isPlace(place) || !isWithin(inch, 0, INCHES - 1) || !isHour(hour)) {
             return NOTHING;
         }
-        return air.warmth(place, inch, hour);
+        return air.warmth(air.ofHour(hour), place, inch);
     }
 
     public int ray(int angle, int what) {
@@ -262,8 +263,8 @@ public final class RoadWater {
             case 2: return light.hitThing;
             case 3: return light.hitInch;
             case 4: return light.height;
-            case 5: return light.lowest;
-            case 6: return light.turns;
+            case 5: return light.heights[light.lowestPlace()];
+            case 6: return light.turns();
             case 7: return light.slope;
             default: return NOTHING;
         }
@@ -341,7 +342,7 @@ public final class RoadWater {
             case 2: return field.lowestWater();
             case 3:
                 light.send(highest);
-                return light.lowestPlace;
+                return light.lowestPlace();
             default: return NOTHING;
         }
     }
@@ -408,7 +409,7 @@ public final class RoadWater {
         light.standByTerms();
         int bits = 0;
         for (int hour = 0; hour < HOURS; hour++) {
-            light.hour = hour;
+            light.turnTo(hour);
             field.look();
             if (field.raysTo(thing) > 0) {
                 bits |= 1 << hour;
@@ -423,9 +424,10 @@ public final class RoadWater {
         }
         light.standByTerms();
         survey.begin();
-        for (int hour = 0; hour < HOURS; hour++) {
-            light.hour = hour;
-            survey.addHour(tall);
+        int hours = air.differsByHour() ? HOURS : 1;
+        for (int hour = 0; hour < hours; hour++) {
+            light.turnTo(hour);
+            survey.addHours(tall, hours == 1 ? ALL_HOURS : 1 << hour);
         }
         int best = survey.placeOfMostHours();
         return best == NONE || what == 0 ? best : survey.hoursAt(best);
@@ -447,7 +449,7 @@ public final class RoadWater {
         int best = NONE;
         int least = 0;
         for (int hour = 0; hour < HOURS; hour++) {
-            light.hour = hour;
+            light.turnTo(hour);
             int error = light.levelError(place);
             if (error != NOTHING && (best == NONE || Math.abs(error) < least)) {
                 best = hour;
@@ -625,7 +627,7 @@ public final class RoadWater {
 
     private int sightsWrong(int hour) {
         light.standByTerms();
-        light.hour = hour;
+        light.turnTo(hour);
         int number = 0;
         for (int i = 0; i < road.sightCount; i++) {
             light.send(road.sightAngles[i]);
@@ -776,6 +778,12 @@ public final class RoadWater {
         static final int KIND_BITS = 4;
         static final int KIND_MASK = 15;
         static final int STACK = 64;
+        static final int INCH = 0;
+        static final int ABOVE = 1;
+        static final int PLACE = 2;
+        static final int GROUND = 3;
+        static final int RISE = 4;
+        static final int HOUR_NOW = 5;
         static final int WORDS = 6;
         static final int WITHOUT = 10;
         static final int COLDEST = -50;
@@ -786,11 +794,13 @@ public final class RoadWater {
         private final int[] code;
         private final int[] sumStops;
         private final int[] clauseStops;
+        final boolean asksHour;
 
-        Law(int[] code, int[] sumStops, int[] clauseStops) {
+        Law(int[] code, int[] sumStops, int[] clauseStops, boolean asksHour) {
             this.code = code;
             this.sumStops = sumStops;
             this.clauseStops = clauseStops;
+            this.asksHour = asksHour;
         }
 
         // The last CLAUSE that HOLDS tells the WARMTH, so they are asked from
@@ -889,6 +899,7 @@ public final class RoadWater {
         private final int[] clauseStops = new int[CLAUSES];
         private int clauses;
         private int parts;
+        private boolean asksHour;
 
         int readText(int[] text, int length) {
             split(text, Math.min(length, Math.min(text.length, TAPE_BYTES)));
@@ -896,16 +907,17 @@ public final class RoadWater {
             size = 0;
             clauses = 0;
             parts = 0;
+            asksHour = false;
             boolean read = readClause();
-            for (int number = 1; read && number <= CLAUSES && takes(';'); number++) {
-                read = number < CLAUSES && readClause();
+            for (int i = 0; i < TAPE_BYTES && read && takes(';'); i++) {
+                read = readClause();
             }
             return read && kindHere() == STOP ? NONE : starts[token];
         }
 
         Law makeLaw() {
             return new Law(Arrays.copyOf(code, size), Arrays.copyOf(sumStops, clauses),
-                    Arrays.copyOf(clauseStops, clauses));
+                    Arrays.copyOf(clauseStops, clauses), asksHour);
         }
 
         private void split(int[] text, int length) {
@@ -974,24 +986,23 @@ public final class RoadWater {
             return asked == NONE ? OTHER_WORD : FIRST_ASKED + asked;
         }
 
-        // The order is that in which Air lays the words out.
         private static int askedWord(int[] text, int start, int stop) {
             if (spells(text, start, stop, "inch")) {
-                return 0;
+                return Law.INCH;
             }
             if (spells(text, start, stop, "above")) {
-                return 1;
+                return Law.ABOVE;
             }
             if (spells(text, start, stop, "place")) {
-                return 2;
+                return Law.PLACE;
             }
             if (spells(text, start, stop, "ground")) {
-                return 3;
+                return Law.GROUND;
             }
             if (spells(text, start, stop, "rise")) {
-                return 4;
+                return Law.RISE;
             }
-            return spells(text, start, stop, "hour") ? 5 : NONE;
+            return spells(text, start, stop, "hour") ? Law.HOUR_NOW : NONE;
         }
 
         private static boolean spells(int[] text, int start, int stop, String word) {
@@ -1150,6 +1161,7 @@ public final class RoadWater {
                 emit(Law.NUMBER, numbers[token]);
             } else {
                 emit(Law.WORD, kind - FIRST_ASKED);
+                asksHour = asksHour || kind == FIRST_ASKED + Law.HOUR_NOW;
             }
             parts++;
             token++;
@@ -1157,16 +1169,23 @@ public final class RoadWater {
         }
     }
 
-    /** WARMTH of one HOUR, as far as it has been asked for. */
+    /** What the air of one HOUR is like, as far as it has been asked for. */
     private static final class HourAir {
         static final int UNKNOWN = NOTHING;
 
+        final int hour;
         final int[] warmths = new int[PLACES * INCHES];
+        final int[] pulls = new int[PLACES * INCHES];
         final int[] ages = new int[PLACES];
+
+        HourAir(int hour) {
+            this.hour = hour;
+        }
 
         void clear(int place, int age) {
             for (int i = place * INCHES; i < (place + 1) * INCHES; i++) {
                 warmths[i] = UNKNOWN;
+                pulls[i] = UNKNOWN;
             }
             ages[place] = age;
         }
@@ -1198,47 +1217,57 @@ public final class RoadWater {
             }
         }
 
-        /** What it is WARMER one INCH below an INCH than one above it. */
-        int pull(int place, int inch, int hour) {
-            if (road.lawInForce == NONE) {
-                return 0;
-            }
-            return warmth(place, Math.max(inch - 1, 0), hour)
-                    - warmth(place, Math.min(inch + 1, INCHES - 1), hour);
+        private Law lawInForce() {
+            int number = road.lawInForce;
+            return number >= 0 && number < LAWS ? road.laws[number] : null;
         }
 
-        int warmth(int place, int inch, int hour) {
-            int number = road.lawInForce;
-            if (number < 0 || number >= LAWS) {
-                return Law.WITHOUT;
-            }
-            Law law = road.laws[number];
-            if (law == null) {
-                return Law.WITHOUT;
-            }
-            HourAir air = hoursKept[hour];
+        boolean differsByHour() {
+            Law law = lawInForce();
+            return law != null && law.asksHour;
+        }
+
+        // Under a LAW that does not ask the HOUR all HOURS share one air.
+        HourAir ofHour(int hour) {
+            int shared = differsByHour() ? hour : 0;
+            HourAir air = hoursKept[shared];
             if (air == null) {
-                air = new HourAir();
-                hoursKept[hour] = air;
+                air = new HourAir(shared);
+                hoursKept[shared] = air;
             }
-            int first = place * INCHES;
-            if (air.ages[place] != ages[place]) {
-                air.clear(place, ages[place]);
+            for (int place = 0; place < PLACES; place++) {
+                if (air.ages[place] != ages[place]) {
+                    air.clear(place, ages[place]);
+                }
             }
-            if (air.warmths[first + inch] == HourAir.UNKNOWN) {
-                layOut(place, inch, hour);
-                air.warmths[first + inch] = law.tell(words, stack);
+            return air;
+        }
+
+        /** What it is WARMER one INCH below an INCH than one above it. */
+        int findPull(HourAir air, int place, int inch) {
+            int pull = warmth(air, place, Math.max(inch - 1, 0))
+                    - warmth(air, place, Math.min(inch + 1, INCHES - 1));
+            air.pulls[place * INCHES + inch] = pull;
+            return pull;
+        }
+
+        int warmth(HourAir air, int place, int inch) {
+            int cell = place * INCHES + inch;
+            if (air.warmths[cell] == HourAir.UNKNOWN) {
+                Law law = lawInForce();
+                layOut(place, inch, air.hour);
+                air.warmths[cell] = law == null ? Law.WITHOUT : law.tell(words, stack);
             }
-            return air.warmths[first + inch];
+            return air.warmths[cell];
         }
 
         private void layOut(int place, int inch, int hour) {
-            words[0] = inch;
-            words[1] = inch - road.rises[place];
-            words[2] = place;
-            words[3] = road.grounds[place];
-            words[4] = road.rises[place];
-            words[5] = hour;
+            words[Law.INCH] = inch;
+            words[Law.ABOVE] = inch - road.rises[place];
+            words[Law.PLACE] = place;
+            words[Law.GROUND] = road.grounds[place];
+            words[Law.RISE] = road.rises[place];
+            words[Law.HOUR_NOW] = hour;
         }
     }
 
@@ -1246,10 +1275,11 @@ public final class RoadWater {
     private static final class Light {
         private final Road road;
         private final Air air;
+        private final int[] noThings = new int[PLACES];
 
         int eyePlace;
         int eyeHeight;
-        int hour;
+        HourAir hourAir;
         int bend;
         boolean pastThings;
         int trembling;
@@ -1259,9 +1289,6 @@ public final class RoadWater {
         int place;
         int height;
         int slope;
-        int lowest;
-        int lowestPlace;
-        int turns;
         int ending;
         int hitThing;
         int hitInch;
@@ -1269,10 +1296,14 @@ public final class RoadWater {
         Light(Road road, Air air) {
             this.road = road;
             this.air = air;
+            Arrays.fill(noThings, NONE);
+            hourAir = air.ofHour(0);
         }
 
+        // Each call that sends RAYS begins here: the air may have changed
+        // since the one ahead.
         void standByTerms() {
-            hour = road.terms[HOUR];
+            turnTo(road.terms[HOUR]);
             bend = road.terms[BEND];
             eyePlace = road.terms[EYE_PLACE];
             eyeHeight = road.terms[EYE_HEIGHT];
@@ -1280,66 +1311,84 @@ public final class RoadWater {
             trembling = 0;
         }
 
+        void turnTo(int hour) {
+            hourAir = air.ofHour(hour);
+        }
+
         void send(int angle) {
-            place = eyePlace;
-            height = 100 * eyeHeight + 50;
-            slope = angle;
-            heights[place] = height;
-            lowest = height;
-            lowestPlace = place;
-            turns = 0;
-            ending = IN_SKY;
+            int[] things = pastThings ? noThings : road.thingAt;
+            int[] pulls = hourAir.pulls;
+            int at = eyePlace;
+            int high = 100 * eyeHeight + 50;
+            int steep = angle;
+            heights[at] = high;
+            boolean going = true;
+            while (going && at < LAST_PLACE) {
+                at++;
+                high += steep;
+                if (trembling > 0) {
+                    high += drawn(2 * trembling + 1) - trembling;
+                }
+                heights[at] = high;
+                int above = high - 100 * road.rises[at];
+                going = above >= 0 && high < SKY_HEIGHT
+                        && (things[at] == NONE || above >= 100 * road.thingTalls[things[at]]);
+                if (going && at < LAST_PLACE) {
+                    int pull = pulls[at * INCHES + high / 100];
+                    if (pull == HourAir.UNKNOWN) {
+                        pull = air.findPull(hourAir, at, high / 100);
+                    }
+                    steep = Math.max(-STEEPEST_SLOPE, Math.min(STEEPEST_SLOPE, steep + bend * pull));
+                }
+            }
+            place = at;
+            height = high;
+            slope = steep;
+            settle(going ? NONE : things[at], high - 100 * road.rises[at], going);
+        }
+
+        // Without a TREMBLING there are no DRAWS: all would be 0.
+        private int drawn(int many) {
+            seed = (int) ((seed * 1103L + 12345L) % 1000003L);
+            return seed % many;
+        }
+
+        private void settle(int there, int above, boolean wentOn) {
             hitThing = NONE;
             hitInch = NONE;
-            int heading = Integer.signum(angle);
-            for (int next = eyePlace + 1; next < PLACES; next++) {
-                stepTo(next);
-                if (stopsHere()) {
-                    return;
-                }
-                if (next < LAST_PLACE && bend != 0) {
-                    int bent = slope + bend * air.pull(next, height / 100, hour);
-                    slope = Math.max(-STEEPEST_SLOPE, Math.min(STEEPEST_SLOPE, bent));
-                    if (slope != 0 && Integer.signum(slope) == -heading) {
-                        turns++;
-                    }
-                    heading = slope == 0 ? heading : Integer.signum(slope);
-                }
-            }
-        }
-
-        private void stepTo(int next) {
-            place = next;
-            height += slope;
-            // A TREMBLING of 0 draws zeros alone: nobody sees that SEED again.
-            if (trembling > 0) {
-                seed = (int) ((seed * 1103L + 12345L) % 1000003L);
-                height += seed % (2 * trembling + 1) - trembling;
-            }
-            heights[next] = height;
-            if (height < lowest) {
-                lowest = height;
-                lowestPlace = next;
-            }
-        }
-
-        private boolean stopsHere() {
-            int floor = 100 * road.rises[place];
-            if (height < floor) {
+            if (wentOn || height >= SKY_HEIGHT) {
+                ending = IN_SKY;
+            } else if (above < 0) {
                 ending = IN_GROUND;
-                return true;
+            } else {
+                ending = IN_THING;
+                hitThing = there;
+                hitInch = above / 100;
             }
-            if (height >= SKY_HEIGHT) {
-                return true;
+        }
+
+        int lowestPlace() {
+            int lowest = eyePlace;
+            for (int at = eyePlace + 1; at <= place; at++) {
+                if (heights[at] < heights[lowest]) {
+                    lowest = at;
+                }
             }
-            int there = pastThings ? NONE : road.thingAt[place];
-            if (there == NONE || height >= floor + 100 * road.thingTalls[there]) {
-                return false;
+            return lowest;
+        }
+
+        // A RAY that does not TREMBLE climbs from PLACE to PLACE by its SLOPE.
+        int turns() {
+            int number = 0;
+            int heading = 0;
+            for (int at = eyePlace; at < place; at++) {
+                int sign = Integer.signum(heights[at + 1] - heights[at]);
+                if (sign != 0) {
+                    number += sign == -heading ? 1 : 0;
+                    heading = sign;
+                }
             }
-            ending = IN_THING;
-            hitThing = there;
-            hitInch = (height - floor) / 100;
-            return true;
+            return number;
         }
 
         boolean comesTo(int goal) {
@@ -1398,13 +1447,13 @@ public final class RoadWater {
                     && height < floor + 100 * tall;
         }
 
-        /** Sets the HOUR's bit at each PLACE where a THING so TALL is SEEN. */
-        void addHour(int tall) {
+        /** Sets the HOURS' bits at each PLACE where a THING so TALL is SEEN. */
+        void addHours(int tall, int bits) {
             for (int angle = -FIELD_EDGE; angle <= FIELD_EDGE; angle++) {
                 light.send(angle);
                 for (int goal = light.eyePlace + 1; goal <= light.place; goal++) {
                     if (wouldEndIn(goal, tall)) {
-                        tally[goal] |= 1 << light.hour;
+                        tally[goal] |= bits;
                     }
                 }
             }
@@ -1455,7 +1504,7 @@ public final class RoadWater {
         private final int[] hitThings = new int[FIELD_RAYS];
         private final int[] hitInches = new int[FIELD_RAYS];
         private boolean known;
-        private int knownHour;
+        private HourAir knownAir;
         private int knownBend;
         private int knownEyeHeight;
 
@@ -1468,7 +1517,7 @@ public final class RoadWater {
         }
 
         void look() {
-            if (known && knownHour == light.hour && knownBend == light.bend
+            if (known && knownAir == light.hourAir && knownBend == light.bend
                     && knownEyeHeight == light.eyeHeight) {
                 return;
             }
@@ -1479,7 +1528,7 @@ public final class RoadWater {
                 hitInches[i] = light.hitInch;
             }
             known = true;
-            knownHour = light.hour;
+            knownAir = light.hourAir;
             knownBend = light.bend;
             knownEyeHeight = light.eyeHeight;
         }
@@ -1564,14 +1613,10 @@ public final class RoadWater {
             return bits;
         }
 
-        private boolean isWater(int i) {
-            return i < FIELD_EDGE && endings[i] == IN_SKY;
-        }
-
         int waterAngles() {
             int number = 0;
             for (int i = 0; i < FIELD_EDGE; i++) {
-                if (isWater(i)) {
+                if (endings[i] == IN_SKY) {
                     number++;
                 }
             }
@@ -1580,7 +1625,7 @@ public final class RoadWater {
 
         int highestWater() {
             for (int i = FIELD_EDGE - 1; i >= 0; i--) {
-                if (isWater(i)) {
+                if (endings[i] == IN_SKY) {
                     return i - FIELD_EDGE;
                 }
             }
@@ -1589,7 +1634,7 @@ public final class RoadWater {
 
         int lowestWater() {
             for (int i = 0; i < FIELD_EDGE; i++) {
-                if (isWater(i)) {
+                if (endings[i] == IN_SKY) {
                     return i - FIELD_EDGE;
                 }
             }

@@ -78,6 +78,8 @@ public final class PromiseTests {
 
     private static void p01() {
         promise = 1;
+        due("NONE", RoadWater.NONE, -1);
+        due("NOTHING", RoadWater.NOTHING, -1000000);
         RoadWater x = new RoadWater();
         int[] counts = {0, 0, 0, 0, 0, 0, 0, 0, 0, 0, NONE, 12, 1, 0, 16};
         for (int what = 0; what < counts.length; what++) {
@@ -330,7 +332,25 @@ public final class PromiseTests {
         fault("warm 1000", NONE);
         fault("warm 0001000", NONE);
         fault("warm 1001", 5);
+        fault("warm 10000", 5);
         fault("warm 99999999999999999999", 5);
+        fault("warmz 1", 0);
+        fault("zwarm 1", 0);
+        fault("warm`1", 4);
+        fault("warm{1", 4);
+        fault("warm/1", 4);
+        fault("warm:1", 4);
+        fault("xarm 1", 0);
+        fault("warm xnch", 5);
+        fault("if 1", 0);
+        fault("warm 1 warm 1<2", 7);
+        fault("warm 1 if 1<2 not 2<3", 14);
+        fault("warm 1*;warm 1", 7);
+        fault("warm 1+;warm 1", 7);
+        fault("warm 1 if 1<;warm 1", 12);
+        fault("warm 1 if 1<2 or;warm 1", 16);
+        fault("warm 1 if 1<2 and;warm 1", 17);
+        fault("warm 1 if not;warm 1", 13);
         fault("warm 1 + ", 9);
         fault("warm [1", 7);
         fault("warm [1)", 7);
@@ -387,6 +407,22 @@ public final class PromiseTests {
         fault("warm [1]" + times(30, "*[1]"), NONE);
         fault("warm 1 if " + times(96, "not ") + "1<2", NONE);
         fault("warm 1" + times(394, " "), NONE);
+        fault(times(400, "("), 0);
+        fault("warm " + times(395, "["), 13);
+        RoadWater x = under("warm" + times(48, "[[[1]]]+") + "[[[[[1]]]]] ");
+        due("a full TAPE", x.warm(0, 0, 0), 49);
+        // What stood behind the end of the TAPE is no part of the TEXT, nor is what an earlier one had.
+        x.feed(0x7761726d, 0x20696e63, 0x68657320, 0, 0);
+        x.end(9);
+        due("warm inch|es", x.law(), 1);
+        due("50 PARTS", law(x, "warm 1" + times(49, "+1")), 2);
+        due("50 PARTS", law(x, "warm 1" + times(49, "+1")), 3);
+        due("12 CLAUSES", law(x, times(11, "warm 1;") + "warm 2"), 4);
+        due("12 CLAUSES", law(x, times(11, "warm 1;") + "warm 3"), 5);
+        for (int i = 1; i < 6; i++) {
+            x.force(i);
+            due("law " + i, x.warm(0, 7, 0), new int[] {0, 7, 50, 50, 2, 3}[i]);
+        }
     }
 
     private static void p14() {
@@ -448,6 +484,10 @@ public final class PromiseTests {
         told("warm 20; warm 30 if not 1 = 2 and 1 = 2", 20);
         told("warm 20; warm 30 if not not not 1 = 2", 30);
         told("warm 20; warm 1 / 0 if 1 = 2", 20);
+        told("warm 20; warm 30 if not (not 1 = 1)", 30);
+        told("warm 20; warm 30 if not (1 = 1) or not (1 = 2)", 30);
+        told("warm 20; warm 30 if 1 = 2 or 1 = 3 or 2 = 2", 30);
+        told("warm 20; warm 30 if 1 = 1 and 2 = 2 and 1 = 2", 20);
         RoadWater x = under("warm hour + inch * 2 - place");
         due("warm(0, 0, 0)", x.warm(0, 0, 0), 0);
         due("warm(63, 31, 23)", x.warm(63, 31, 23), 22);
@@ -510,6 +550,11 @@ public final class PromiseTests {
         due("at 5", x.at(-10, 5), 900);
         // ANGLE 0 has no side from which it could turn.
         due("turns of 0", x.ray(0, 6), 0);
+        due("from -9 to 1", x.ray(-9, 6), 1);
+        x.terms(2, 61);
+        // 845 at 62, SLOPE 5, 850 at 63: there it ENDS and is not lifted any more.
+        ray(x, -5, 2, 63, NONE, NONE, 850, 845, 1, 5);
+        x.terms(2, 0);
         x.terms(1, 9);
         // SLOPE -500 at 350: out of reach of the edge, then GROUND.
         ray(x, -500, 0, 2, NONE, NONE, -150, -150, 0, -500);
@@ -555,6 +600,29 @@ public final class PromiseTests {
         due("one turn over 0", z.ray(10, 6), 1);
     }
 
+    /** By ANGLE 100 alone a RAY is at 200, the RISE of PLACE 2; all others END in the GROUND ahead or there. */
+    private static RoadWater steepest() {
+        // 50 + a at PLACE 1; at INCH 1 the SLOPE becomes a - 50: 2 a at PLACE 2; at INCH 0 a stays.
+        RoadWater x = under("warm 60 if inch = 2 and place = 1");
+        x.terms(3, 0);
+        x.rise(2, 2);
+        x.thing(1, 1);
+        x.move(0, 0);
+        return x;
+    }
+
+    /** By ANGLE -100 alone a RAY is at 99 at PLACE 62, from where it is thrown up to 1091 at PLACE 63. */
+    private static RoadWater lowest() {
+        // 250 + a at PLACE 61; at INCH 1 the SLOPE becomes a + 49: 299 + 2 a at PLACE 62. There odd INCHES are -50,
+        // even ones 99: only at INCH 0 (and 31) is there a difference, 149.
+        RoadWater x = under("warm 17 if inch = 0 and place = 61;"
+                + "warm 99 - [inch - inch / 2 * 2] * 149 if place = 62");
+        x.terms(1, 7);
+        x.terms(2, 60);
+        x.terms(3, 2);
+        return x;
+    }
+
     private static void p17() {
         promise = 17;
         RoadWater x = new RoadWater();
@@ -592,6 +660,14 @@ public final class PromiseTests {
         due("seen(2)", x.seen(2), NONE);
         due("seen(-1)", x.seen(-1), NONE);
         due("seen(LOW)", x.seen(LOW), NONE);
+        RoadWater y = lowest();
+        y.thing(63, 5);
+        y.rise(63, 10);
+        due("by -100 alone", y.seen(0), 1);
+        RoadWater z = steepest();
+        z.move(0, 2);
+        due("by 100 alone", z.seen(0), 1);
+        due("by 100 alone", z.picture(0, 0, 0), 100);
     }
 
     /** Air that lifts RAYS below INCH 7: PICTURES of one THING, one of them ON ITS HEAD. */
@@ -690,6 +766,13 @@ public final class PromiseTests {
         z.thing(63, 31);
         // INCHES 15, 16, 17 are SEEN.
         due("63 from 62", z.hidden(0), HIGH - (7 << 15));
+        RoadWater w = lowest();
+        w.thing(63, 5);
+        w.rise(63, 10);
+        due("INCH 0 is SEEN by -100", w.hidden(0), 30);
+        RoadWater v = steepest();
+        v.move(0, 2);
+        due("INCH 0 is SEEN by 100", v.hidden(0), 0);
     }
 
     private static void p22() {
@@ -725,6 +808,29 @@ public final class PromiseTests {
         due("straight", z.water(0), 13);
         due("straight", z.water(2), -13);
         due("straight", z.water(3), 63);
+        RoadWater w = lowest();
+        w.thing(63, 10);
+        int[] one = {1, -100, -100, 62};
+        for (int what = 0; what < 4; what++) {
+            due("water(" + what + ") of -100", w.water(what), one[what]);
+        }
+        // ANGLE -1: 849, SLOPE 0, 849 again.
+        RoadWater v = under("warm 11 if inch < 8");
+        v.terms(3, 8);
+        due("at 1", v.at(-1, 1), 849);
+        due("at 2", v.at(-1, 2), 849);
+        due("the first of them", v.water(3), 1);
+        RoadWater u = new RoadWater();
+        u.terms(2, 62);
+        u.thing(63, 17);
+        // 1650 + a below 1700: all below 0 END in the THING; ANGLE 0 does, too.
+        due("water(0)", u.water(0), 0);
+        u.rise(63, 16);
+        u.move(0, 0);
+        // ANGLES -50 .. -1, and 0, which is no WATER.
+        due("water(0)", u.water(0), 50);
+        due("water(1)", u.water(1), -1);
+        due("water(2)", u.water(2), -50);
     }
 
     private static void p23() {
@@ -740,6 +846,13 @@ public final class PromiseTests {
         due("a hill", x.horizon(), 17);
         x.terms(2, 63);
         due("from 63", x.horizon(), NOTHING);
+        due("all but 100", steepest().horizon(), 99);
+        // 59 - 10 is 49 more at INCH 1 of PLACE 62: 99 at PLACE 63 by -100, 101 by -99.
+        RoadWater y = under("warm 59 if inch = 0");
+        y.terms(2, 61);
+        y.terms(3, 2);
+        y.rise(63, 1);
+        due("-100 alone", y.horizon(), -100);
     }
 
     private static void p24() {
@@ -756,6 +869,12 @@ public final class PromiseTests {
         due("aim(-1, -1)", x.aim(-1, -1), NOTHING);
         due("aim(1, 0)", x.aim(1, 0), NOTHING);
         due("aim(0, HIGH)", x.aim(0, HIGH), NOTHING);
+        RoadWater y = lowest();
+        y.thing(63, 31);
+        due("by -100", y.aim(0, 10), -100);
+        RoadWater z = steepest();
+        z.move(0, 2);
+        due("by 100", z.aim(0, 0), 100);
     }
 
     private static void p25() {
@@ -803,6 +922,21 @@ public final class PromiseTests {
         due("shade(1)", y.shade(1), 3100);
         y.rise(2, 31);
         due("shade(2)", y.shade(2), 3100);
+        due("by 100 alone", steepest().shade(2), 200);
+        RoadWater z = lowest();
+        z.rise(62, 1);
+        due("by -99, as -100 is in the GROUND", z.shade(62), 101);
+        z.rise(62, 0);
+        due("by -100", z.shade(62), 99);
+        RoadWater w = new RoadWater();
+        w.terms(3, 31);
+        w.rise(1, 31);
+        w.rise(2, 31);
+        w.thing(1, 1);
+        // All up to 49 are stopped at PLACE 1, all others are in the SKY there.
+        due("none comes to 2", w.shade(2), NOTHING);
+        w.move(0, 2);
+        due("shade(1)", w.shade(1), 3100);
     }
 
     private static void p27() {
@@ -836,6 +970,16 @@ public final class PromiseTests {
         y.terms(2, 0);
         y.thing(2, 31);
         due("both end at 2", y.cross(40, 60), NONE);
+        // By -501 a RAY would be thrown from 349 up to 1189 at PLACE 2, by 501 from 1351 down to 511.
+        RoadWater z = under("warm 99 if inch = 2 or inch = 14; warm 0 - 50 if inch = 4 or inch = 12");
+        z.terms(1, 9);
+        z.terms(3, 8);
+        due("cross(-500, 0)", z.cross(-500, 0), 2);
+        due("cross(-501, 0)", z.cross(-501, 0), NONE);
+        due("cross(0, -501)", z.cross(0, -501), NONE);
+        due("cross(500, 0)", z.cross(500, 0), 2);
+        due("cross(501, 0)", z.cross(501, 0), NONE);
+        due("cross(0, 501)", z.cross(0, 501), NONE);
     }
 
     private static void p28() {
@@ -852,6 +996,19 @@ public final class PromiseTests {
         due("hours(0)", x.hours(0), 0);
         due("hours(1)", x.hours(1), NONE);
         due("hours(-1)", x.hours(-1), NONE);
+        RoadWater y = lowest();
+        y.thing(63, 5);
+        y.rise(63, 10);
+        due("by one RAY, a LAW without HOUR", y.hours(0), ALL_HOURS);
+        y.terms(1, 6);
+        due("by none", y.hours(0), 0);
+        law(y, "warm 17 if inch = 0 and place = 61;"
+                + "warm 99 - [inch - inch / 2 * 2] * 149 if place = 62 and (hour = 0 or hour = 23)");
+        y.force(1);
+        y.terms(1, 7);
+        due("at 0 and 23", y.hours(0), 1 | 1 << 23);
+        y.force(0);
+        due("LAW 0 again", y.hours(0), ALL_HOURS);
     }
 
     private static void p29() {
@@ -884,6 +1041,26 @@ public final class PromiseTests {
         due("mark(1, 0)", y.mark(1, 0), 16);
         due("mark(1, 1)", y.mark(1, 1), 18);
         due("HOUR is as it was", y.count(11), 12);
+        RoadWater z = new RoadWater();
+        z.terms(2, 62);
+        due("PLACE 63", z.mark(31, 0), 63);
+        due("PLACE 63", z.mark(31, 1), 24);
+        RoadWater w = steepest();
+        w.move(0, 1);
+        due("by 100 alone, just on the RISE", w.mark(1, 0), 2);
+        due("by 100 alone, just on the RISE", w.mark(1, 1), 24);
+        RoadWater v = justOver();
+        due("just over it", v.mark(1, 1), 24);
+        due("just over it", v.mark(1, 0), 3);
+    }
+
+    /** By ANGLE -100 a RAY is at 100 at PLACE 2, by all others higher; behind that it is lower. */
+    private static RoadWater justOver() {
+        // 250 + a at PLACE 1; at INCH 1 the SLOPE becomes a + 50: 300 + 2 a at PLACE 2.
+        RoadWater x = under("warm 60 if inch = 0 and place = 1");
+        x.terms(3, 2);
+        x.thing(1, 1);
+        return x;
     }
 
     private static void p30() {
@@ -946,7 +1123,16 @@ public final class PromiseTests {
         due("eyes(1, 0)", x.eyes(1, 0), NONE);
         due("eyes(-1, 0)", x.eyes(-1, 0), NONE);
         RoadWater y = mirage();
-        due("twice from somewhere", y.eyes(0, 2) > 0 ? 1 : 0, 1);
+        int twice = 0;
+        for (int height = 0; height < 32; height++) {
+            y.terms(3, height);
+            twice += y.pictures(0) >= 2 ? 1 : 0;
+        }
+        due("twice from somewhere", y.eyes(0, 2), twice);
+        // From HEIGHTS 22 .. 24, 26 and 28 it has one; from 15, 17 and others two just.
+        due("twice", twice, 27);
+        y.terms(3, 15);
+        due("two just", y.pictures(0), 2);
         y.terms(1, 0);
         due("never without BEND", y.eyes(0, 2), 0);
         RoadWater z = new RoadWater();
@@ -955,6 +1141,14 @@ public final class PromiseTests {
         // 100 h + 50 + a is 0 .. 99 for HEIGHTS 0 (a from -50 to 49) and 1 (from -100 to -51).
         due("eyes(0, 0)", z.eyes(0, 0), 2);
         due("eyes(0, 1)", z.eyes(0, 1), 2);
+        RoadWater w = new RoadWater();
+        w.thing(63, 1);
+        // 100 h + 50 + 63 a is 0 .. 99 for one or two ANGLES from each HEIGHT.
+        due("seen(0)", w.seen(0), 2);
+        w.terms(3, 0);
+        due("seen(0)", w.seen(0), 1);
+        due("eyes(0, 0)", w.eyes(0, 0), 32);
+        due("eyes(0, 1)", w.eyes(0, 1), 32);
     }
 
     private static void p33() {
@@ -978,6 +1172,24 @@ public final class PromiseTests {
         due("twice somewhere", place > 0 ? 1 : 0, 1);
         y.move(0, place);
         due("there it is twice", y.pictures(0), 2);
+        RoadWater z = new RoadWater();
+        z.terms(2, 62);
+        due("PLACE 63", z.where(31, 1), 63);
+        due("PLACE 63", z.where(31, 0), NONE);
+        RoadWater w = steepest();
+        w.move(0, 1);
+        w.cross(0, 100);
+        due("by 100 alone, just on the RISE", w.where(1, 1), 2);
+        due("just over it", justOver().where(1, 0), 2);
+        // 9 PICTURES can be asked for, 10 can't, though there are some.
+        RoadWater v = under("warm 12 - above * 3 if above < 7");
+        v.terms(3, 4);
+        due("where(9, 9)", v.where(9, 9), 43);
+        due("where(9, 10)", v.where(9, 10), NONE);
+        v.thing(43, 9);
+        due("there it has 9", v.pictures(0), 9);
+        v.move(0, 49);
+        due("there it has 10", v.pictures(0), 10);
     }
 
     private static void p34() {
@@ -1017,6 +1229,22 @@ public final class PromiseTests {
         due("drop(1)", x.drop(1), -2);
         due("drop(0)", x.drop(0), 0);
         due("drop(0)", x.drop(0), -2);
+        x.thing(30, 10);
+        // 12 SIGHTS, of two THINGS by turns, all right but the 6th; those behind it stay as they are.
+        for (int i = 0; i < 12; i++) {
+            int angle = i % 2 == 0 ? -40 - i : -33 + i;
+            due("ray", x.ray(angle, 2), i % 2);
+            x.sight(angle, i % 2, i == 5 ? NONE : x.ray(angle, 3));
+        }
+        due("wrong(0)", x.wrong(0), 1);
+        due("drop(5)", x.drop(5), 11);
+        due("wrong(0)", x.wrong(0), 0);
+        due("drop(10)", x.drop(10), 10);
+        due("wrong(0)", x.wrong(0), 0);
+        for (int i = 9; i >= 0; i--) {
+            due("drop(0)", x.drop(0), i);
+            due("wrong(0)", x.wrong(0), 0);
+        }
     }
 
     private static void p36() {
@@ -1075,6 +1303,18 @@ public final class PromiseTests {
         due("wrong(18)", x.wrong(18), 1);
         due("wrong(0)", x.wrong(0), 2);
         due("HOUR is as it was", x.count(11), 12);
+        RoadWater y = under("warm 99 - inch * 9 if hour < 1 or hour > 1");
+        y.terms(1, 9);
+        y.thing(40, 5);
+        y.sight(-40, 0, 0);
+        due("likely()", y.likely(), 1);
+        due("fits()", y.fits(), 2);
+        law(y, "warm 99 - inch * 9 if hour > 0");
+        y.force(1);
+        due("likely()", y.likely(), 0);
+        law(y, "warm 99 - inch * 9 if hour < 23");
+        y.force(2);
+        due("likely()", y.likely(), 23);
     }
 
     private static void p39() {
@@ -1088,6 +1328,11 @@ public final class PromiseTests {
         due("trembled(0, 0)", x.trembled(0, 0), 0);
         due("trembled(0, 1)", x.trembled(0, 1), 62);
         sameByHand(x);
+        // 12345 % 3 is 0: 49; by -49 it is 0 then, just on the GROUND; by -50 below it.
+        due("tremble(0, -49, 1, 1)", x.tremble(0, -49, 1, 1), 1);
+        due("trembled(0, 1)", x.trembled(0, 1), 62);
+        x.tremble(0, -50, 1, 1);
+        due("trembled(0, 1)", x.trembled(0, 1), 61);
         due("tremble(0, 0, 0, 40)", x.tremble(0, 0, 0, 40), 40);
         due("tremble(1000000, -500, 50, 1)", x.tremble(1000000, -500, 50, 1), 1);
         int[][] bad = {{-1, 0, 0, 1}, {1000001, 0, 0, 1}, {0, 501, 0, 1}, {0, -501, 0, 1}, {0, 0, -1, 1},
@@ -1210,6 +1455,29 @@ public final class PromiseTests {
         due("seen(0)", x.seen(0), 50);
         due("thing(5, 5)", x.thing(5, 5), 1);
         due("a law in its place", law(x, "warm 77"), 1);
+        RoadWater y = new RoadWater();
+        y.image(1);
+        y.thing(9, 4);
+        y.thing(8, 5);
+        law(y, "warm 44");
+        y.force(0);
+        y.sight(-200, 1, y.ray(-200, 3));
+        y.image(0);
+        y.back(1);
+        due("count(0)", y.count(0), 0);
+        due("count(10)", y.count(10), NONE);
+        due("warm", y.warm(0, 0, 0), 10);
+        y.thing(9, 30);
+        y.thing(8, 31);
+        y.sight(-200, 0, 1);
+        law(y, "warm 55");
+        y.force(0);
+        due("warm", y.warm(0, 0, 0), 55);
+        y.back(0);
+        due("warm", y.warm(0, 0, 0), 44);
+        due("of(0, 1)", y.of(0, 1), 4);
+        due("of(1, 1)", y.of(1, 1), 5);
+        due("wrong(0)", y.wrong(0), 0);
     }
 
     private static void change(RoadWater x) {
@@ -1262,6 +1530,8 @@ public final class PromiseTests {
         }
         x.thing(9, 1);
         due("count(8)", x.count(8), 1);
+        x.rise(40, 1);
+        due("count(3)", x.count(3), 1);
         due("count(15)", x.count(15), NONE);
         due("count(-1)", x.count(-1), NONE);
         due("count(LOW)", x.count(LOW), NONE);
