@@ -1052,6 +1052,8 @@ public final class PromiseTests {
         RoadWater v = justOver();
         due("just over it", v.mark(1, 1), 24);
         due("just over it", v.mark(1, 0), 3);
+        due("in the SKY", skyEdge().mark(1, 0), 63);
+        due("in the SKY", skyEdge().mark(1, 1), 0);
     }
 
     /** By ANGLE -100 a RAY is at 100 at PLACE 2, by all others higher; behind that it is lower. */
@@ -1060,6 +1062,22 @@ public final class PromiseTests {
         RoadWater x = under("warm 60 if inch = 0 and place = 1");
         x.terms(3, 2);
         x.thing(1, 1);
+        return x;
+    }
+
+    /** To PLACE 63 one RAY comes at 3200, the SKY's edge; all others END in its RISE. */
+    private static RoadWater skyEdge() {
+        // By -100: 2650 at 61, SLOPE -100 + 6 * 8; 2598 at 62, SLOPE -52 + 6 * 109; 3200 at 63. By the others 2600
+        // and more at 62 and 3050 at most at 63.
+        RoadWater x = under("warm 18 if inch = 25 and place = 61; warm 99 if inch = 24 and place = 62;"
+                + "warm 0 - 10 if inch = 26 and place = 62");
+        x.terms(1, 6);
+        x.terms(2, 60);
+        x.terms(3, 27);
+        x.rise(63, 31);
+        due("at(-100, 63)", x.at(-100, 63), 3200);
+        x.thing(61, 1);
+        x.thing(62, 1);
         return x;
     }
 
@@ -1181,6 +1199,7 @@ public final class PromiseTests {
         w.cross(0, 100);
         due("by 100 alone, just on the RISE", w.where(1, 1), 2);
         due("just over it", justOver().where(1, 0), 2);
+        due("in the SKY", skyEdge().where(1, 0), 63);
         // 9 PICTURES can be asked for, 10 can't, though there are some.
         RoadWater v = under("warm 12 - above * 3 if above < 7");
         v.terms(3, 4);
