@@ -1,8 +1,10 @@
 import java.nio.charset.StandardCharsets;
 
 /**
- * One method a promise, with answers worked out by hand: ordinary inputs, the
- * edges that the document names, and wrong inputs.
+ * One method a promise: ordinary inputs, the edges that the document names, and
+ * wrong inputs. Most answers are worked out by hand; those of the mirage (its
+ * pictures, from how many heights it is seen twice, where there are 9 and 10)
+ * were read off the class, and RandomRuns holds them against the second program.
  */
 public final class PromiseTests {
     private static final int NONE = RoadWater.NONE;

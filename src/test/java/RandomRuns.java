@@ -17,12 +17,37 @@ public final class RandomRuns {
     public static void main(String[] args) {
         int runs = args.length > 1 ? Integer.parseInt(args[1]) : RUNS;
         int first = args.length > 2 ? Integer.parseInt(args[2]) : 0;
+        mirages();
         for (int run = first; run < first + runs && wrong < 20; run++) {
             new Run(run).go();
         }
         System.out.println(wrong == 0 ? "random runs: all answers agree" : wrong + " answers differ");
         if (wrong != 0) {
             System.exit(1);
+        }
+    }
+
+    /** The cases of PromiseTests whose answers were read off the class and not worked out by hand. */
+    private static void mirages() {
+        for (int[] c : new int[][] {{10, 50, 12}, {4, 43, 9}, {4, 49, 9}}) {
+            Run run = new Run(1);
+            run.feedBytes("warm 12 - above * 3 if above < 7".getBytes(java.nio.charset.StandardCharsets.ISO_8859_1));
+            run.due("end(32)", run.x.end(32), run.y.end(32));
+            run.due("law()", run.x.law(), run.y.law());
+            run.due("force(0)", run.x.force(0), run.y.force(0));
+            run.due("terms", run.x.terms(3, c[0]), run.y.terms(3, c[0]));
+            run.due("where 2", run.x.where(12, 2), run.y.where(12, 2));
+            run.due("where 9", run.x.where(9, 9), run.y.where(9, 9));
+            run.due("thing", run.x.thing(c[1], c[2]), run.y.thing(c[1], c[2]));
+            run.due("pictures", run.x.pictures(0), run.y.pictures(0));
+            for (int i = 0; i < 20; i++) {
+                run.due("picture", run.x.picture(0, i / 5, i % 5), run.y.picture(0, i / 5, i % 5));
+            }
+            run.due("eyes", run.x.eyes(0, 2), run.y.eyes(0, 2));
+            for (int height = 0; height < 32; height++) {
+                run.due("terms", run.x.terms(3, height), run.y.terms(3, height));
+                run.due("pictures", run.x.pictures(0), run.y.pictures(0));
+            }
         }
     }
 
