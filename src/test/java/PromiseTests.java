@@ -1056,6 +1056,28 @@ public final class PromiseTests {
         due("just over it", v.mark(1, 0), 3);
         due("in the SKY", skyEdge().mark(1, 0), 63);
         due("in the SKY", skyEdge().mark(1, 1), 0);
+        due("in the SKY, below the THING's top", skyEdge().mark(2, 1), 0);
+        due("just below its top", lowest().mark(1, 0), 62);
+        due("just below its top", lowest().mark(1, 1), 24);
+        due("below the RISE", belowRise().mark(5, 0), 63);
+        due("below the RISE", belowRise().mark(5, 1), 0);
+    }
+
+    /** To PLACE 63 some RAYS come just below its RISE of 3100, at 3095 at most; no other one comes there. */
+    private static RoadWater belowRise() {
+        // 3150 + a at 62, from its RISE on up to the SKY: a from -50 to 49; at INCH 31 the SLOPE becomes a - 153.
+        RoadWater x = under("warm 27 if inch = 31 and place = 62");
+        x.terms(1, 9);
+        x.terms(2, 61);
+        x.terms(3, 31);
+        x.rise(62, 31);
+        x.rise(63, 31);
+        due("at(49, 63)", x.at(49, 63), 3095);
+        due("at(-50, 63)", x.at(-50, 63), 2897);
+        due("at(-51, 63)", x.at(-51, 63), NOTHING);
+        due("at(50, 63)", x.at(50, 63), NOTHING);
+        x.thing(62, 1);
+        return x;
     }
 
     /** By ANGLE -100 a RAY is at 100 at PLACE 2, by all others higher; behind that it is lower. */
@@ -1202,6 +1224,9 @@ public final class PromiseTests {
         due("by 100 alone, just on the RISE", w.where(1, 1), 2);
         due("just over it", justOver().where(1, 0), 2);
         due("in the SKY", skyEdge().where(1, 0), 63);
+        due("in the SKY, below the THING's top", skyEdge().where(2, 0), 63);
+        due("just below its top", lowest().where(1, 1), 62);
+        due("below the RISE", belowRise().where(5, 0), 63);
         // 9 PICTURES can be asked for, 10 can't, though there are some.
         RoadWater v = under("warm 12 - above * 3 if above < 7");
         v.terms(3, 4);
