@@ -215,6 +215,7 @@ public final class EdgeTests {
             tellNumbers(told, made(then));
             tellSights(told, made(then));
             tellLaws(told, made(then));
+            tellPlaces(told, made(then));
             tellRises(told, made(then));
             tellGrounds(told, made(then));
             tellText(told, made(then));
@@ -257,6 +258,12 @@ public final class EdgeTests {
             tell(told, "trembled(" + i + ", 1)", x.trembled(i, 1));
         }
         tell(told, "worn()", x.worn());
+    }
+
+    private static void tellPlaces(List<String> told, RoadWater x) {
+        for (int place = 0; place < 64; place++) {
+            tell(told, "thing(" + place + ", 1)", x.thing(place, 1));
+        }
     }
 
     private static void tellSights(List<String> told, RoadWater x) {
@@ -757,6 +764,9 @@ public final class EdgeTests {
         asked(bent, "by BEND it is SEEN", x -> x.aim(0, 19), 98);
         asked(with(bent, x -> x.terms(1, 0)), "without it is SEEN", x -> x.aim(0, 14), -100);
         asked(with(bent, x -> x.terms(1, 0)), "loom(0, 14) with BEND 0", x -> x.loom(0, 14), 0);
+        // The HEIGHT the same as BEND, or as 0: 950, 54 more and twice the ANGLE; 50, 27 more at INCH 0.
+        asked(with(bent, x -> x.terms(3, 9)), "loom(0, 9) from 9", x -> x.loom(0, 9), -27);
+        asked(with(bent, x -> x.terms(3, 0)), "loom(0, 0) from 0", x -> x.loom(0, 0), -13);
         noThing("loom(.., 0)", (x, thing) -> x.loom(thing, 0), NOTHING);
         noThing("loom(.., -1)", (x, thing) -> x.loom(thing, -1), NOTHING);
     }
@@ -801,6 +811,8 @@ public final class EdgeTests {
         asked(with(crossing, x -> x.thing(2, 31)), "both come there", x -> x.cross(40, 60), 2);
         // The lesser one ENDS in the THING at PLACE 1 (890), the other one goes past it.
         asked(with(crossing, x -> x.thing(1, 9)), "one does not", x -> x.cross(40, 60), NONE);
+        Start before = with(crossing, x -> x.cross(40, 60));
+        asked(with(before, x -> x.thing(1, 9)), "one does not any more", x -> x.cross(40, 60), NONE);
         int[][] bad = {{-501, 0}, {501, 0}, {0, -501}, {0, 501}, {LOW, 0}, {0, HIGH}, {501, 501}, {-501, -501}};
         for (int[] b : bad) {
             allAsked("cross(" + b[0] + ", " + b[1] + ")", x -> x.cross(b[0], b[1]), NONE);
@@ -1131,26 +1143,70 @@ public final class EdgeTests {
         }
         for (int k = 0; k < 2; k++) {
             int image = k;
-            Start kept = with(CROWDED, x -> x.image(image));
-            same("image and back", told(kept), told(with(with(kept, x -> spoil(x)), x -> back(x, image))));
+            Start kept = x -> {
+                x.image(1 - image);
+                fill(x, 0);
+                x.image(image);
+            };
+            Start back = with(kept, x -> {
+                due("back(" + (1 - image) + ")", x.back(1 - image), 0);
+                fill(x, 1);
+                due("back(" + image + ")", x.back(image), 0);
+            });
+            same("image(" + k + ") and back(" + k + ")", told(kept), told(back));
         }
+        keptAlone();
     }
 
-    /** All that an IMAGE keeps becomes otherwise, the other things stay. */
-    private static void spoil(RoadWater x) {
-        x.rise(3, 17);
-        x.ground(0, 63, 4);
-        x.move(0, 1);
-        x.move(7, 2);
-        x.force(4);
-        x.drop(3);
+    private static void keptAlone() {
+        RoadWater x = made(STRAIGHT);
+        x.thing(0, 1);
+        for (int i = 0; i < 12; i++) {
+            x.sight(0, 0, 16);
+        }
+        x.image(0);
+        for (int i = 0; i < 12; i++) {
+            x.drop(0);
+        }
+        for (int i = 0; i < 12; i++) {
+            x.sight(100, 1, 18);
+        }
+        due("wrong(0) of others", x.wrong(0), 12);
+        due("back(0)", x.back(0), 0);
+        due("wrong(0) of those kept", x.wrong(0), 0);
+        due("count(2)", x.count(2), 12);
+        RoadWater y = new RoadWater();
+        y.image(0);
+        y.thing(0, 1);
+        y.thing(63, 1);
+        due("back(0)", y.back(0), 0);
+        due("no THING is at 63", y.thing(63, 2), 0);
+        due("no THING is at 0", y.thing(0, 2), 1);
+    }
+
+    /** All that an IMAGE keeps, as much as there may be: another one for 0 than for 1. */
+    private static void fill(RoadWater x, int n) {
+        byte[] rises = new byte[64];
+        for (int place = 0; place < 64; place++) {
+            rises[place] = (byte) (place / 8 + n);
+        }
+        Calls.feed(x, rises);
+        x.row();
+        x.ground(0, 62, 3 + n);
+        x.ground(63, 63, 5 + n);
+        for (int i = 0; i < 8; i++) {
+            x.thing(63 - 2 * i - n, 10 + i + n);
+        }
+        for (int i = 0; i < 6; i++) {
+            Calls.law(x, "warm ground * 10 + " + (i + 6 * n));
+        }
+        x.force(5 - n);
         for (int what = 0; what < 4; what++) {
-            x.terms(what, 3);
+            x.terms(what, 7 + n);
         }
-    }
-
-    private static void back(RoadWater x, int image) {
-        due("back(" + image + ")", x.back(image), 0);
+        for (int i = 0; i < 12; i++) {
+            x.sight(n == 0 ? -30 + i : 20 + i, i % 7 + n, i % 2 == n ? NONE : i);
+        }
     }
 
     private static void p42() {

@@ -1057,10 +1057,29 @@ public final class PromiseTests {
         due("in the SKY", skyEdge().mark(1, 0), 63);
         due("in the SKY", skyEdge().mark(1, 1), 0);
         due("in the SKY, below the THING's top", skyEdge().mark(2, 1), 0);
+        due("just below the SKY", belowSky().mark(1, 0), 63);
+        due("just below the SKY", belowSky().mark(1, 1), 24);
         due("just below its top", lowest().mark(1, 0), 62);
         due("just below its top", lowest().mark(1, 1), 24);
         due("below the RISE", belowRise().mark(5, 0), 63);
         due("below the RISE", belowRise().mark(5, 1), 0);
+    }
+
+    /** To PLACE 63 one RAY comes at 3199, just below the SKY; all others END in its RISE. */
+    private static RoadWater belowSky() {
+        // By -100: 2650 at 61, SLOPE -100 + 7 * 7; 2599 at 62, SLOPE -51 + 7 * 93; 3199 at 63. By the others 2601
+        // and more at 62 and 3050 at most at 63.
+        RoadWater x = under("warm 17 if inch = 25 and place = 61; warm 93 if inch = 24 and place = 62;"
+                + "warm 0 if inch = 26 and place = 62");
+        x.terms(1, 7);
+        x.terms(2, 60);
+        x.terms(3, 27);
+        x.rise(63, 31);
+        due("at(-100, 63)", x.at(-100, 63), 3199);
+        due("at(-99, 63)", x.at(-99, 63), 2551);
+        x.thing(61, 1);
+        x.thing(62, 1);
+        return x;
     }
 
     /** To PLACE 63 some RAYS come just below its RISE of 3100, at 3095 at most; no other one comes there. */
@@ -1225,6 +1244,7 @@ public final class PromiseTests {
         due("just over it", justOver().where(1, 0), 2);
         due("in the SKY", skyEdge().where(1, 0), 63);
         due("in the SKY, below the THING's top", skyEdge().where(2, 0), 63);
+        due("just below the SKY", belowSky().where(1, 1), 63);
         due("just below its top", lowest().where(1, 1), 62);
         due("below the RISE", belowRise().where(5, 0), 63);
         // 9 PICTURES can be asked for, 10 can't, though there are some.

@@ -299,9 +299,12 @@ public final class TermsTests {
         Calls.fault("warm 1 if", 9);
         Calls.fault("warm 1 if 1 = 1 if 1 = 1", 16);
         Calls.fault("warm 1 < 2", 7);
+        Calls.fault("x 1", 0);
+        Calls.fault("warm 1 x 1 = 1", 7);
         Calls.told("warm 2 if 1 = 1", 2);
         quote("TEST: BOTH {\"or\" BOTH}.");
         Calls.fault("warm 1 if or 1 = 1", 10);
+        Calls.fault("warm 1 if 1 = 1 x 1 = 1", 16);
         Calls.fault("warm 1 if 1 = 1 or", 18);
         Calls.told("warm 2 if 1 = 2 or 1 = 3 or 1 = 1", 2);
         Calls.told("warm 2 if 1 = 2 or 1 = 3 or 1 = 4", 10);
@@ -315,6 +318,10 @@ public final class TermsTests {
         quote("PLAIN: \"not\" PLAIN | \"(\" TEST \")\" | SUM (\"<\" | \">\" | \"=\") SUM.");
         Calls.told("warm 2 if not 1 = 2", 2);
         Calls.told("warm 2 if not not 1 = 2", 10);
+        Calls.told("warm 2 if not 2 < 1", 2);
+        Calls.told("warm 2 if not 1 < 2", 10);
+        Calls.told("warm 2 if not 1 > 2", 2);
+        Calls.told("warm 2 if not 2 > 1", 10);
         Calls.told("warm 2 if not 1 = 1 or 1 = 1", 2);
         Calls.told("warm 2 if not (1 = 1 or 1 = 1)", 10);
         Calls.told("warm 2 if (1 = 1 or 1 = 1) and 1 = 2", 10);
@@ -326,6 +333,7 @@ public final class TermsTests {
             Calls.told("warm 2 if " + String.format(sums, ">"), so[i][1]);
             Calls.told("warm 2 if " + String.format(sums, "="), so[i][2]);
         }
+        Calls.fault("warm 1 if x 1 = 1", 10);
         Calls.fault("warm 1 if 1", 11);
         Calls.fault("warm 1 if (1 = 1", 16);
         Calls.fault("warm 1 if ()", 11);
@@ -353,6 +361,12 @@ public final class TermsTests {
         Calls.fault("warm 1001", 5);
         Calls.fault("warm 1 + 1001", 9);
         Calls.fault("warm 1,000", 6);
+        // Beyond what 32 and 64 bits hold.
+        for (String number : new String[] {"4294967296", "4294968296", "18446744073709551616", "9".repeat(395)}) {
+            Calls.fault("warm " + number, 5);
+            Calls.fault("warm 1 + " + number.substring(0, Math.min(number.length(), 391)), 9);
+        }
+        Calls.fault("1001 warm 1", 0);
         Calls.told("warm 1000 - 999", 1);
         Calls.told("warm 0", 0);
         Calls.told("warm [2 + 3] * 4", 20);
@@ -704,6 +718,26 @@ public final class TermsTests {
         x.rise(63, 31);
         due("all END in the GROUND", x.horizon(), 100);
         due("none higher", x.ray(101, 0), GROUND);
+        justSteeper();
+    }
+
+    /** To PLACE 2 only RAYS come that are no more of the FIELD. */
+    private static void justSteeper() {
+        // 50 + a at PLACE 1; at INCH 1 the SLOPE becomes a - 52: 2 a - 2 at PLACE 2, whose RISE is 200.
+        RoadWater x = Calls.under("warm 62 if inch = 2 and place = 1");
+        x.terms(3, 0);
+        x.rise(2, 2);
+        due("at(100, 2)", x.at(100, 2), 198);
+        due("at(101, 2)", x.at(101, 2), 200);
+        due("shade(2)", x.shade(2), NOTHING);
+        due("horizon()", x.horizon(), 100);
+        x.thing(1, 1);
+        due("where(1, 0)", x.where(1, 0), 2);
+        due("mark(1, 0)", x.mark(1, 0), 2);
+        due("mark(1, 1)", x.mark(1, 1), 0);
+        x.move(0, 2);
+        due("seen(0)", x.seen(0), 0);
+        due("by 101 it is", x.ray(101, 2), 0);
     }
 
     private static void seeing() {
@@ -746,6 +780,7 @@ public final class TermsTests {
             due("one row, " + what, y.picture(0, 0, what), one[what]);
         }
         singleGap();
+        singleAngle();
     }
 
     /** One ANGLE by which it is not SEEN parts two PICTURES. */
@@ -760,6 +795,37 @@ public final class TermsTests {
         for (int i = 0; i < rows.length; i++) {
             due("lowest of " + i, x.picture(0, i, 0), rows[i][0]);
             due("highest of " + i, x.picture(0, i, 1), rows[i][1]);
+        }
+    }
+
+    /** A PICTURE of one ANGLE, beside another THING's. */
+    private static void singleAngle() {
+        // 250 + a at PLACE 61; at INCH 1 the SLOPE becomes a + 49: 99 by -100, 101 by -99 at PLACE 62; at INCH 1 the
+        // SLOPE of -99 becomes -50 + 623: 674 at PLACE 63.
+        RoadWater x = eye(Calls.under("warm 17 if inch = 0 and place = 61; warm 99 if inch = 0 and place = 62"), 60, 2);
+        x.terms(1, 7);
+        for (int i = 0; i < 5; i++) {
+            x.thing(i, 1);
+        }
+        due("THING 5", x.thing(62, 1), 5);
+        due("THING 6", x.thing(63, 31), 6);
+        due("seen(5)", x.seen(5), 1);
+        due("pictures(5)", x.pictures(5), 1);
+        int[] one = {-100, -100, 0, 0, 0};
+        for (int what = 0; what < 5; what++) {
+            due("picture(5, 0, " + what + ")", x.picture(5, 0, what), one[what]);
+        }
+        due("the other one's lowest", x.picture(6, 0, 0), -99);
+        due("its INCH", x.ray(-99, 3), 6);
+        // 50 + a at PLACE 1; at INCH 1 the SLOPE becomes a - 50: 2 a at PLACE 2, whose RISE is 200.
+        RoadWater y = Calls.under("warm 60 if inch = 2 and place = 1");
+        y.terms(3, 0);
+        y.rise(2, 2);
+        y.thing(2, 1);
+        due("by 100 alone", y.pictures(0), 1);
+        int[] highest = {100, 100, 0, 0, 0};
+        for (int what = 0; what < 5; what++) {
+            due("picture(0, 0, " + what + ")", y.picture(0, 0, what), highest[what]);
         }
     }
 
@@ -835,6 +901,12 @@ public final class TermsTests {
         int[] none = {0, NOTHING, NOTHING, NOTHING};
         for (int what = 0; what < 4; what++) {
             due("of ANGLES from 0 on none is, water(" + what + ")", x.water(what), none[what]);
+        }
+        // 43 PLACES on 50 and 43 times the ANGLE: -1 alone.
+        RoadWater y = from(20, 0);
+        int[] one = {1, -1, -1, 63};
+        for (int what = 0; what < 4; what++) {
+            due("-1 alone, water(" + what + ")", y.water(what), one[what]);
         }
     }
 
