@@ -4,8 +4,11 @@ import java.lang.reflect.Method;
 import java.lang.reflect.Modifier;
 import java.nio.file.Files;
 import java.nio.file.Path;
+import java.util.ArrayList;
+import java.util.HashMap;
 import java.util.HashSet;
 import java.util.List;
+import java.util.Map;
 import java.util.Set;
 import java.util.TreeSet;
 import java.util.regex.Matcher;
@@ -17,6 +20,8 @@ public final class RulesCheck {
             + "fault/0 force/1 warm/3 ray/2 at/2 seen/1 pictures/1 picture/3 hidden/1 water/1 horizon/0 aim/2 loom/2 "
             + "shade/1 cross/2 hours/1 mark/2 level/1 best/1 eyes/2 where/2 sight/3 drop/1 wrong/1 fits/0 likely/0 "
             + "tremble/4 trembled/2 image/1 back/1 count/1 status/0";
+    private static final Pattern METHOD = Pattern.compile("^( {4}| {8})(?! )[\\w\\[\\] ]*?(\\w+)\\(.*\\{$");
+    private static final Pattern CALL = Pattern.compile("\\b(?<!Math\\.)(?<!Arrays\\.)(\\w+)\\(");
     private static int wrong = 0;
 
     private static void must(boolean holds, String rule) {
@@ -32,6 +37,7 @@ public final class RulesCheck {
         inside();
         words(bare(source));
         lengths(source);
+        depths(bare(source));
         System.out.println(wrong == 0 ? "rules: kept" : wrong + " rules are broken");
         if (wrong != 0) {
             System.exit(1);
@@ -136,5 +142,64 @@ public final class RulesCheck {
                 start = -1;
             }
         }
+    }
+
+    /** How deep calls go; by a method's name alone, so it may be told too deep, but never too flat. */
+    private static void depths(String code) {
+        Map<String, Set<String>> calls = new HashMap<>();
+        String[] lines = code.split("\n");
+        String name = "";
+        String stop = "";
+        for (String line : lines) {
+            Matcher m = METHOD.matcher(line);
+            if (name.isEmpty() && m.find()) {
+                name = m.group(2);
+                stop = m.group(1) + "}";
+                calls.putIfAbsent(name, new HashSet<>());
+            } else if (line.equals(stop)) {
+                name = "";
+                stop = "";
+            } else if (!name.isEmpty()) {
+                Matcher call = CALL.matcher(line);
+                while (call.find()) {
+                    calls.get(name).add(call.group(1));
+                }
+            }
+        }
+        must(calls.size() > 100, "rule 11: methods found: " + calls.size());
+        for (Set<String> called : calls.values()) {
+            called.retainAll(calls.keySet());
+        }
+        Map<String, Set<String>> reached = new HashMap<>();
+        for (String from : calls.keySet()) {
+            reached.put(from, reach(calls, from));
+        }
+        for (String from : calls.keySet()) {
+            int deep = depth(calls, reached, from, 0);
+            must(deep <= 8, "rule 11: calls go " + deep + " deep from " + from);
+        }
+    }
+
+    private static Set<String> reach(Map<String, Set<String>> calls, String from) {
+        Set<String> reached = new HashSet<>();
+        List<String> open = new ArrayList<>(calls.get(from));
+        while (!open.isEmpty()) {
+            String next = open.remove(open.size() - 1);
+            if (reached.add(next)) {
+                open.addAll(calls.get(next));
+            }
+        }
+        return reached;
+    }
+
+    // A call of a method that comes back to the one that calls it is recursion.
+    private static int depth(Map<String, Set<String>> calls, Map<String, Set<String>> reached, String from, int above) {
+        int deepest = above + 1;
+        for (String to : calls.get(from)) {
+            if (!reached.get(to).contains(from)) {
+                deepest = Math.max(deepest, depth(calls, reached, to, above + 1));
+            }
+        }
+        return deepest;
     }
 }
